@@ -468,7 +468,9 @@ public final class StarlingSquare {
                 walls[f] = 0;
                 marks[f] = 0;
             }
-            measureAll();
+            for (int i = 0; i < GOALS * MOST_FIELDS; i++) {
+                distances[i] = NONE;
+            }
         }
 
         void copyFrom(Square other) {

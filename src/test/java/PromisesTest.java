@@ -95,8 +95,11 @@ public final class PromisesTest {
         Check.due("the mark is gone", 1, s.mark(0, 1, 1));
         Check.due("nobody is on it", NONE, s.field(0, 3, 1));
         Check.due("numbers begin again", 0, s.walker(0, 1, 0, 0, 0));
-        Check.due("DRAW stays, as asked last", 7, s.set(2, 1));
-        s.walker(3, 1, 0, 2, 4);
+        Check.due("it walked no steps", 0, s.ofWalker(0, 6));
+        Check.due("it went in no side", STAY, s.ofWalker(0, 4));
+        Check.due("it did not wait", 0, s.ofWalker(0, 5));
+        Check.due("it was not out", NONE, s.ofWalker(0, 8));
+        Check.due("DRAW stays", 7, s.set(2, 1));
         s.reset(4, 4);
         s.walker(3, 1, 0, 2, 3);
         s.tick(1);
@@ -125,6 +128,8 @@ public final class PromisesTest {
         Check.indexRefused("toY -1", s, () -> s.wall(0, 0, 0, Integer.MIN_VALUE, true));
         s.walker(2, 1, 0, 8, 3);
         Check.stateRefused("over a walker", s, () -> s.wall(9, 4, 7, 2, true));
+        Check.stateRefused("on a walker alone", s, () -> s.wall(8, 3, 8, 3, true));
+        Check.stateRefused("with a walker in the last corner", s, () -> s.wall(7, 2, 8, 3, true));
         Check.due("nothing is built then", 0, s.field(7, 2, 0));
         Check.indexRefused("no such field first", s, () -> s.wall(8, 3, 8, 8, true));
         Check.due("free under a walker", 11, s.wall(8, 3, 8, 3, false));
@@ -775,6 +780,7 @@ public final class PromisesTest {
         Check.due("long within", 5, s.outIn(0, 60));
         Check.due("pace 2", 24, s.outIn(1, 60));
         Check.due("no way", NONE, s.outIn(2, 60));
+        Check.due("as many as there are ticks to the last", 24, s.outIn(1, 24));
         Check.due("nothing is changed", before, s.digest());
         s.tick(5);
         Check.due("it is out", 0, s.outIn(0, 1));
