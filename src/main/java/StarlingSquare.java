@@ -540,36 +540,43 @@ public final class StarlingSquare {
 
         /** Finds how FAR all FIELDS are from a GOAL, the nearest ones first. */
         void measure(int goal) {
-            if (!isGoal(goal)) {
-                return;
-            }
-            int row = goal * MOST_FIELDS;
             int tail = 0;
-            for (int f = 0; f < MOST_FIELDS; f++) {
+            for (int f = 0; f < grid.fields; f++) {
                 boolean isStart = isFree(f) && isMarked(goal, f);
-                distances[row + f] = isStart ? 0 : NONE;
-                if (isStart) {
-                    queue[tail] = f;
-                    tail++;
-                }
+                keepDistance(goal, f, isStart ? 0 : NONE);
+                tail = isStart ? enqueue(f, tail) : tail;
             }
             for (int head = 0; head < tail && head < MOST_FIELDS; head++) {
-                tail = spread(row, queue[head], tail);
+                tail = spread(goal, queue[head], tail);
             }
         }
 
         /** Queues what is beside a FIELD and was not reached yet, and returns the queue's new end. */
-        private int spread(int row, int f, int tail) {
+        private int spread(int goal, int f, int tail) {
             int end = tail;
             for (int side = 0; side < SIDES; side++) {
                 int n = grid.next(f, side);
-                if (isFree(n) && distances[row + n] == NONE && end < MOST_FIELDS) {
-                    distances[row + n] = distances[row + f] + 1;
-                    queue[end] = n;
-                    end++;
+                if (isFree(n) && distance(goal, n) == NONE) {
+                    keepDistance(goal, n, distance(goal, f) + 1);
+                    end = enqueue(n, end);
                 }
             }
             return end;
+        }
+
+        private void keepDistance(int goal, int f, int steps) {
+            if (isGoal(goal) && grid.has(f)) {
+                distances[goal * MOST_FIELDS + f] = steps;
+            }
+        }
+
+        /** Puts a FIELD at the queue's end, and returns its new end. */
+        private int enqueue(int f, int end) {
+            if (end < 0 || end >= MOST_FIELDS) {
+                return end;
+            }
+            queue[end] = f;
+            return end + 1;
         }
 
         /** The FIELD behind k steps, each one nearer to the GOAL; NONE if there are not so many. */

@@ -6,8 +6,31 @@ final class Check {
 
     private static int looked = 0;
     private static int wrong = 0;
+    private static String sentence = "";
+
+    static {
+        Thread guard = new Thread(Check::endLate);
+        guard.setDaemon(true);
+        guard.start();
+    }
 
     private Check() {
+    }
+
+    /** A call that never ends must fail the test, not hold up all others. */
+    private static void endLate() {
+        try {
+            Thread.sleep(300_000L);
+        } catch (InterruptedException e) {
+            return;
+        }
+        System.out.println(sentence + "did not end within 300 seconds");
+        Runtime.getRuntime().halt(1);
+    }
+
+    /** The sentence of the document that the answers from here on are about. */
+    static void about(String text) {
+        sentence = text + " | ";
     }
 
     static void due(String what, long want, long got) {
@@ -52,7 +75,7 @@ final class Check {
     static void fail(String text) {
         wrong++;
         if (wrong <= 50) {
-            System.out.println(text);
+            System.out.println(sentence + text);
         }
     }
 
@@ -62,7 +85,7 @@ final class Check {
         System.exit(wrong == 0 && looked > 0 ? 0 : 1);
     }
 
-    private static Class<?> thrownBy(Call call) {
+    static Class<?> thrownBy(Call call) {
         try {
             call.answer();
             return null;
