@@ -9,7 +9,7 @@ public final class RefusedTest {
     private static final Class<IllegalArgumentException> ARGUMENT = IllegalArgumentException.class;
     private static final Class<IllegalStateException> STATE = IllegalStateException.class;
 
-    // Walker 0 is OUT, 1 goes to its GOAL, 2 is in a JAM at (0, 0), 3 goes with PACE 3.
+    // Walker 0 is OUT, 1 is on its way at (4, 4), 2 is in a JAM at (0, 0), 3 is drawn by 1, at (3, 4).
     private static final Refusal BUSY = new Refusal(RefusedTest::busy);
     // 24 walkers, of whom 0 is OUT.
     private static final Refusal FULL = new Refusal(RefusedTest::full);
@@ -61,7 +61,7 @@ public final class RefusedTest {
         s.walker(0, 1, 3, 4, 0);
         s.walker(1, 2, 9, 5, 4);
         s.walker(3, 1, 0, 0, 0);
-        s.walker(0, 3, 5, 0, 1);
+        s.walker(0, 3, 5, 3, 4);
         s.tick(2);
         return s;
     }

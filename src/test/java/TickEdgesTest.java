@@ -665,13 +665,19 @@ public final class TickEdgesTest {
 
     private static void theMarkOfAnotherGoal() {
         Check.about("3: a FIELD that is MARKED for its GOAL");
-        StarlingSquare s = corridor(6);
-        s.mark(0, 5, 0);
-        s.mark(1, 3, 0);
-        s.walker(0, 1, 0, 2, 0);
-        Check.due("over another goal's field", 0, s.tick(2));
-        Check.due("it is behind it", 4, s.ofWalker(0, 3));
-        Check.due("and out at its own", 1, s.tick(1));
+        for (int goal = 0; goal < 4; goal++) {
+            for (int other = 0; other < 4; other++) {
+                StarlingSquare s = corridor(6);
+                s.mark(goal, 5, 0);
+                if (other != goal) {
+                    s.mark(other, 3, 0);
+                }
+                s.walker(goal, 1, 0, 2, 0);
+                Check.due("goal " + goal + " over a field of " + other, 0, s.tick(2));
+                Check.due("it is behind it", 4, s.ofWalker(0, 3));
+                Check.due("and out at its own", 1, s.tick(1));
+            }
+        }
     }
 
     private static void theSquareIsFull() {
