@@ -90,11 +90,16 @@ public final class RulesTest {
                 && Modifier.isPublic(made[0].getModifiers()) && made[0].getParameterCount() == 0);
     }
 
-    private static void members() {
+    private static Set<String> publicNames() {
         Set<String> names = new HashSet<>();
         for (String one : FACE) {
             names.add(one.substring(one.indexOf(' ') + 1, one.indexOf('(')));
         }
+        return names;
+    }
+
+    private static void members() {
+        Set<String> names = publicNames();
         for (Method m : StarlingSquare.class.getDeclaredMethods()) {
             boolean isOwn = Modifier.isPrivate(m.getModifiers());
             holds("rule 1: private " + m.getName(), !isOwn || !names.contains(m.getName()));
@@ -114,6 +119,7 @@ public final class RulesTest {
             fieldsOf(c);
             for (Method m : c.getDeclaredMethods()) {
                 holds("rule 11: parameters of " + m.getName(), m.getParameterCount() <= 7);
+                holds("rule 1: the name " + m.getName(), !publicNames().contains(m.getName()));
             }
         }
         fieldsOf(StarlingSquare.class);
